@@ -17,8 +17,9 @@ public final class ValleyBells {
     private static final int CENTS = 100;
     // The latest sound: an entry of 15, the last of 8 tones, a delay of 8.
     private static final int LAST_BEAT = 30;
-    private static final int[] CONSONANCES = {0, 3, 4, 5, 7, 8, 9};
-    private static final int[] THIRDS = {3, 4};
+    // For each interval from 0 to 11, 1 if it belongs to the kind.
+    private static final int[] CONSONANCES = {1, 0, 0, 1, 1, 1, 0, 1, 1, 1, 0, 0};
+    private static final int[] THIRDS = {0, 0, 0, 1, 1, 0, 0, 0, 0, 0, 0, 0};
     // Two characters for each pitch class, a blank where the name has only one.
     private static final String NOTE_NAMES = "C C#D D#E F F#G G#A A#B ";
     private static final Command[] COMMANDS = Command.values();
@@ -512,13 +513,8 @@ public final class ValleyBells {
         return isWithin(herd, 0, HERDS - 1);
     }
 
-    private static boolean contains(int[] numbers, int number) {
-        for (int each : numbers) {
-            if (each == number) {
-                return true;
-            }
-        }
-        return false;
+    private static boolean belongs(int semitones, int[] kind) {
+        return kind[Math.floorMod(semitones, SEMITONES)] == 1;
     }
 
     private static int nearest(int pitch) {
@@ -556,8 +552,9 @@ public final class ValleyBells {
 
     /** The key with its tolerance. */
     private static final class Key {
-        private static final int[] MAJOR = {0, 2, 4, 5, 7, 9, 11};
-        private static final int[] MINOR = {0, 2, 3, 5, 7, 8, 10};
+        // For each number of semitones above the tonic, 1 if the note belongs to the scale.
+        private static final int[] MAJOR = {1, 0, 1, 0, 1, 1, 0, 1, 0, 1, 0, 1};
+        private static final int[] MINOR = {1, 0, 1, 1, 0, 1, 0, 1, 1, 0, 1, 0};
         private static final int FIRST_TOLERANCE = 10;
         private static final int MOST_TOLERANCE = 50;
 
@@ -571,8 +568,26 @@ public final class ValleyBells {
             tolerance = other.tolerance;
         }
 
+        boolean choose(int newTonic, boolean newIsMinor) {
+            if (!isWithin(newTonic, 0, SEMITONES - 1)) {
+                return false;
+            }
+            tonic = newTonic;
+            isMinor = newIsMinor;
+            return true;
+        }
+
+        int tolerate(int cents) {
+            if (!isWithin(cents, 0, MOST_TOLERANCE)) {
+                return BAD_ARGUMENT;
+            }
+            int previous = tolerance;
+            tolerance = cents;
+            return previous;
+        }
+
         boolean hasNote(int note) {
-            return contains(isMinor ? MINOR : MAJOR, Math.floorMod(note - tonic, SEMITONES));
+            return belongs(note - tonic, isMinor ? MINOR : MAJOR);
         }
 
         boolean accepts(int pitch) {
@@ -922,9 +937,9 @@ public final class ValleyBells {
                 case MOVE_BELL:
                     return bells.drive(first, second);
                 case SET_KEY:
-                    return changeKey(first, second == 1);
+                    return key.choose(first, second == 1) ? bells.countIn(key) : BAD_ARGUMENT;
                 case SET_TOLERANCE:
-                    return tolerate(first);
+                    return key.tolerate(first);
                 case ADD_TONE:
                     return melodies.lengthen(first, second, bells);
                 case CLEAR_MELODY:
@@ -948,24 +963,6 @@ public final class ValleyBells {
             }
             bells.takeDown(bell);
             return melodies.forgetBell(bell);
-        }
-
-        private int changeKey(int tonic, boolean isMinor) {
-            if (!isWithin(tonic, 0, SEMITONES - 1)) {
-                return BAD_ARGUMENT;
-            }
-            key.tonic = tonic;
-            key.isMinor = isMinor;
-            return bells.countIn(key);
-        }
-
-        private int tolerate(int cents) {
-            if (!isWithin(cents, 0, Key.MOST_TOLERANCE)) {
-                return BAD_ARGUMENT;
-            }
-            int previous = key.tolerance;
-            key.tolerance = cents;
-            return previous;
         }
 
         boolean isCanon(int leader, int follower) {
@@ -1036,7 +1033,7 @@ public final class ValleyBells {
             int pairs = 0;
             for (int low = 0; low < size; low++) {
                 for (int high = low + 1; high < size; high++) {
-                    if (contains(intervals, Math.floorMod(notes[high] - notes[low], SEMITONES))) {
+                    if (belongs(notes[high] - notes[low], intervals)) {
                         pairs++;
                     }
                 }
@@ -1054,7 +1051,7 @@ public final class ValleyBells {
             for (int low = 0; low < SEMITONES; low++) {
                 for (int high = low + 1; high < SEMITONES; high++) {
                     // An interval and its inversion are both consonant or both dissonant.
-                    if (!contains(CONSONANCES, high - low)) {
+                    if (!belongs(high - low, CONSONANCES)) {
                         pairs += classCounts[low] * classCounts[high];
                     }
                 }
@@ -1075,7 +1072,6 @@ public final class ValleyBells {
     /** The text buffer, and the commands that were read from it last. */
     private static final class Program {
         private static final int LIMIT = 60;
-        private static final int NO_MATCH = -1;
 
         private final char[] text = new char[LIMIT];
         private int length = 0;

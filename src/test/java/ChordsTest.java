@@ -7,6 +7,7 @@ final class ChordsTest {
         promises38And39();
         promises38And39FullChord();
         promises38And39FarBeats();
+        promises38To42HearTheirOwnBeat();
         promises40And41EachInterval();
         promises40And41ManyNotes();
         promise42Thirds();
@@ -98,6 +99,24 @@ final class ChordsTest {
         }
         Check.noElement("chordNote(15, MAX)", () -> x.chordNote(15, Integer.MAX_VALUE));
         Check.noElement("chordNote(15, MIN)", () -> x.chordNote(15, Integer.MIN_VALUE));
+    }
+
+    /** Each question is asked right after one about another beat. */
+    private static void promises38To42HearTheirOwnBeat() {
+        ValleyBells x = together(60, 61, 64);
+        x.addTone(0, 2);
+        Check.due("chordSize(0)", 3, x.chordSize(0));
+        Check.due("chordNote(1, 0)", 64, x.chordNote(1, 0));
+        Check.due("chordNote(0, 2)", 64, x.chordNote(0, 2));
+        Check.due("chordSize(1)", 1, x.chordSize(1));
+        Check.due("dissonances(0)", 1, x.dissonances(0));
+        Check.due("dissonancesByClasses(1)", 0, x.dissonancesByClasses(1));
+        Check.due("dissonancesByClasses(0)", 1, x.dissonancesByClasses(0));
+        Check.due("dissonances(1)", 0, x.dissonances(1));
+        Check.due("thirds(0)", 2, x.thirds(0));
+        Check.due("thirds(1)", 0, x.thirds(1));
+        Check.due("writeChord(0)", 8, x.writeChord(0));
+        Check.due("writeChord(1)", 2, x.writeChord(1));
     }
 
     private static void promises40And41EachInterval() {
@@ -201,6 +220,32 @@ final class ChordsTest {
         x.setEntry(3, 6);
         x.addTone(3, 1);
         Check.due("harshestBeat, the later one", 6, x.harshestBeat());
+        ValleyBells late = together(60);
+        late.setEntry(0, 15);
+        late.addCliff(8, 0);
+        late.addCliff(8, 1);
+        Check.due("harshestBeat, the first beat of echoes", 23, late.harshestBeat());
+        for (int k = 0; k < 7; k++) {
+            late.addTone(0, 0);
+        }
+        Check.due("harshestBeat", 23, late.harshestBeat());
+        late.addBell(0, 6600);
+        late.addTone(1, 1);
+        late.setEntry(1, 15);
+        Check.due("harshestBeat", 23, late.harshestBeat());
+        ValleyBells last = new ValleyBells();
+        last.addBell(0, 6000);
+        last.addBell(0, 6100);
+        for (int herd = 0; herd < 2; herd++) {
+            last.setEntry(herd, 15);
+            for (int k = 0; k < 8; k++) {
+                last.addTone(herd, k == 7 ? herd : 0);
+            }
+        }
+        last.addCliff(8, 0);
+        last.addCliff(8, 0);
+        Check.due("harshestBeat, the last one possible", 30, last.harshestBeat());
+        Check.due("lastBeat", 30, last.lastBeat());
     }
 
     private static void promise46IsConsistent() {

@@ -47,6 +47,14 @@ final class OutputTest {
         x.addBell(3, 3609);
         x.addBell(0, 5950);
         dueBell(x, 10, "10h3:C2+9");
+        x.tune(10, -8);
+        dueBell(x, 10, "10h3:C2+1");
+        x.setTolerance(0);
+        dueBell(x, 10, "10h3:C2+1!");
+        x.setTolerance(10);
+        x.tune(9, -1);
+        dueBell(x, 9, "9h1:C4-1");
+        x.tune(9, 1);
         dueBell(x, 11, "11h0:C4-50!");
         x.tune(11, -1);
         dueBell(x, 11, "11h0:B3+49!");

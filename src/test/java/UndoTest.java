@@ -37,7 +37,10 @@ final class UndoTest {
         x.addBell(2, 6700);
         x.addTone(0, 1);
         x.addTone(0, 2);
+        x.addTone(1, 2);
+        x.addTone(2, 2);
         x.addTone(3, 0);
+        x.addTone(3, 2);
         x.addCliff(2, 7);
         x.addCliff(3, -7);
         x.save();
@@ -63,7 +66,11 @@ final class UndoTest {
         dueUndone("setKey", x, () -> x.setKey(4, true));
         dueUndone("setTolerance", x, () -> x.setTolerance(4));
         dueUndone("addTone", x, () -> x.addTone(0, 0));
-        dueUndone("clearMelody", x, () -> x.clearMelody(0));
+        for (int herd = 0; herd < 4; herd++) {
+            int cleared = herd;
+            dueUndone("clearMelody", x, () -> x.clearMelody(cleared));
+        }
+        dueUndone("run of clear and tone", x, () -> Check.run(x, "clear 3;tone 3 1;tone 3 1;tone 3 1"));
         dueUndone("setEntry", x, () -> x.setEntry(1, 4));
         dueUndone("addCliff", x, () -> x.addCliff(1, 1));
         dueUndone("removeCliff", x, () -> x.removeCliff(0));
