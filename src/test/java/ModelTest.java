@@ -14,6 +14,8 @@ final class ModelTest {
 
     private static long seed = 20261119;
     private static String waiting = "";
+    private static boolean isTyped = false;
+    private static int lastBell = 0;
 
     public static void main(String[] args) {
         for (int run = 0; run < RUNS; run++) {
@@ -36,7 +38,9 @@ final class ModelTest {
         ValleyBells x = new ValleyBells();
         Model m = new Model();
         waiting = "";
+        isTyped = false;
         for (int call = 0; call < CALLS; call++) {
+            lastBell = isTame ? Math.max(0, x.bellCount() - 1) : 11;
             String name = pickCall(isTame);
             int a = name.equals("append") ? nextCharacter() : pick(isTame, first(name, isTame));
             int b = pick(isTame, second(name, isTame));
@@ -59,23 +63,33 @@ final class ModelTest {
         if (!waiting.isEmpty()) {
             return "append";
         }
-        int die = below(100);
-        if (die < 40) {
-            return QUERIES[below(QUERIES.length)];
-        }
-        if (die < 80) {
-            String change = CHANGES[below(CHANGES.length)];
-            boolean isRemoving = change.startsWith("remove") || change.equals("clearMelody");
-            return isRemoving && isTame && below(4) > 0 ? "addTone" : change;
-        }
-        if (die < 84) {
-            waiting = text(isTame);
-            return "append";
-        }
-        if (die < 92) {
+        if (isTyped && below(10) > 0) {
+            isTyped = false;
             return "run";
         }
-        return new String[] {"undo", "undo", "undo", "save", "restore", "writeBell", "writeChord", "outputAt"}[die - 92];
+        int die = below(100);
+        if (die < 44) {
+            return QUERIES[below(QUERIES.length)];
+        }
+        if (die < 86) {
+            return pickChange(isTame);
+        }
+        if (die < 89) {
+            waiting = text(isTame);
+            isTyped = true;
+            return "append";
+        }
+        return new String[] {"undo", "undo", "undo", "undo", "save", isTame ? "undo" : "restore", "run", "writeBell",
+            "writeChord", "outputAt", "outputAt"}[die - 89];
+    }
+
+    private static String pickChange(boolean isTame) {
+        String change = CHANGES[below(CHANGES.length)];
+        boolean isRemoving = change.startsWith("remove") || change.equals("clearMelody");
+        if (isRemoving && below(isTame ? 8 : 2) > 0) {
+            return below(2) == 0 ? "addBell" : "addTone";
+        }
+        return change;
     }
 
     private static int nextCharacter() {
@@ -125,7 +139,7 @@ final class ModelTest {
             case "outputAt":
                 return new int[] {0, 20};
             default:
-                return new int[] {0, isTame ? 6 : 11};
+                return new int[] {0, lastBell};
         }
     }
 
@@ -141,7 +155,7 @@ final class ModelTest {
             case "addCliff":
                 return new int[] {0, 12};
             case "addTone":
-                return new int[] {0, isTame ? 4 : 11};
+                return new int[] {0, lastBell};
             case "chordNote":
                 return new int[] {0, 5};
             default:

@@ -143,8 +143,10 @@ final class ProgramsTest {
         Check.badState("append", () -> x.append('0'));
         Check.badArgument("run", () -> x.run());
         Check.due("errorPosition", 60, x.errorPosition());
-        Check.due("run of 60 characters", 5, Check.run(x, "tolerance 11;tolerance 12;bell 0 6000;bell 0 6100;bell 3 6200"
-            .substring(0, 49) + ";key 07M"));
+        full = "tolerance 11;tolerance 12;bell 0 6000;bell 0 6100;tune 00+05";
+        Check.due("60 characters", 60, full.length());
+        Check.due("run of 60 characters", 5, Check.run(x, full));
+        Check.due("pitch(0)", 6005, x.pitch(0));
         Check.due("bellCount", 2, x.bellCount());
     }
 
