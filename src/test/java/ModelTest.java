@@ -40,7 +40,8 @@ final class ModelTest {
         waiting = "";
         isTyped = false;
         for (int call = 0; call < CALLS; call++) {
-            lastBell = isTame ? Math.max(0, x.bellCount() - 1) : 11;
+            // The model is asked, for the object answers for its 512 calls only.
+            lastBell = isTame ? Math.max(0, m.s.bells.size() - 1) : 11;
             String name = pickCall(isTame);
             int a = name.equals("append") ? nextCharacter() : pick(isTame, first(name, isTame));
             int b = pick(isTame, second(name, isTame));

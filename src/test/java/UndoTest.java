@@ -11,25 +11,6 @@ final class UndoTest {
         Check.finish("UndoTest");
     }
 
-    /** All that undo, save and restore concern, as a text. */
-    private static String state(ValleyBells x) {
-        StringBuilder text = new StringBuilder();
-        text.append(x.tonic()).append(x.isMinor()).append(x.tolerance());
-        for (int bell = 0; bell < x.bellCount(); bell++) {
-            text.append(" b").append(x.herdOf(bell)).append(':').append(x.pitch(bell));
-        }
-        for (int herd = 0; herd < 4; herd++) {
-            text.append(" m").append(x.entry(herd));
-            for (int k = 0; k < x.melodyLength(herd); k++) {
-                text.append(',').append(x.tone(herd, k));
-            }
-        }
-        for (int cliff = 0; cliff < x.cliffCount(); cliff++) {
-            text.append(" c").append(x.delay(cliff)).append(':').append(x.transposition(cliff));
-        }
-        return text.toString();
-    }
-
     private static ValleyBells filled() {
         ValleyBells x = new ValleyBells();
         x.addBell(0, 6000);
@@ -48,34 +29,34 @@ final class UndoTest {
         return x;
     }
 
-    private static void dueUndone(String name, ValleyBells x, Check.Call change) {
-        String before = state(x);
-        change.make();
-        Check.due("state changed by " + name, false, before.equals(state(x)));
+    private static void dueUndone(String name, Refusal.Call change) {
+        ValleyBells x = filled();
+        String before = Valleys.state(x);
+        change.on(x);
+        Check.due("state changed by " + name, false, before.equals(Valleys.state(x)));
         Check.due("undo of " + name, 0, x.undo());
-        Check.due("state after undo of " + name, before, state(x));
+        Check.due("state after undo of " + name, before, Valleys.state(x));
         Check.badState("undo again after " + name, () -> x.undo());
     }
 
     private static void promise54UndoesEachChange() {
-        ValleyBells x = filled();
-        dueUndone("addBell", x, () -> x.addBell(3, 7000));
-        dueUndone("removeBell", x, () -> x.removeBell(1));
-        dueUndone("tune", x, () -> x.tune(1, 5));
-        dueUndone("moveBell", x, () -> x.moveBell(1, 3));
-        dueUndone("setKey", x, () -> x.setKey(4, true));
-        dueUndone("setTolerance", x, () -> x.setTolerance(4));
-        dueUndone("addTone", x, () -> x.addTone(0, 0));
+        dueUndone("addBell", x -> x.addBell(3, 7000));
+        dueUndone("removeBell", x -> x.removeBell(1));
+        dueUndone("tune", x -> x.tune(1, 5));
+        dueUndone("moveBell", x -> x.moveBell(1, 3));
+        dueUndone("setKey", x -> x.setKey(4, true));
+        dueUndone("setTolerance", x -> x.setTolerance(4));
+        dueUndone("addTone", x -> x.addTone(0, 0));
         for (int herd = 0; herd < 4; herd++) {
             int cleared = herd;
-            dueUndone("clearMelody", x, () -> x.clearMelody(cleared));
+            dueUndone("clearMelody", x -> x.clearMelody(cleared));
         }
-        dueUndone("run of clear and tone", x, () -> Check.run(x, "clear 3;tone 3 1;tone 3 1;tone 3 1"));
-        dueUndone("setEntry", x, () -> x.setEntry(1, 4));
-        dueUndone("addCliff", x, () -> x.addCliff(1, 1));
-        dueUndone("removeCliff", x, () -> x.removeCliff(0));
-        dueUndone("graze", x, () -> x.graze(0, 3));
-        dueUndone("run", x, () -> Check.run(x, "remove 0;bell 2 5000;key 2m;clear 0;fell 0;entry 3 3"));
+        dueUndone("run of clear and tone", x -> Check.run(x, "clear 3;tone 3 1;tone 3 1;tone 3 1"));
+        dueUndone("setEntry", x -> x.setEntry(1, 4));
+        dueUndone("addCliff", x -> x.addCliff(1, 1));
+        dueUndone("removeCliff", x -> x.removeCliff(0));
+        dueUndone("graze", x -> x.graze(0, 3));
+        dueUndone("run", x -> Check.run(x, "remove 0;bell 2 5000;key 2m;clear 0;fell 0;entry 3 3"));
     }
 
     private static void promise54AtMostEight() {
@@ -154,20 +135,20 @@ final class UndoTest {
 
     private static void promise55Save() {
         ValleyBells x = filled();
-        String first = state(x);
+        String first = Valleys.state(x);
         x.save();
         x.removeBell(0);
         x.setKey(2, true);
         x.removeCliff(1);
         x.restore();
-        Check.due("state", first, state(x));
+        Check.due("state", first, Valleys.state(x));
         x.setEntry(0, 9);
         x.clearMelody(3);
-        String second = state(x);
+        String second = Valleys.state(x);
         x.save();
         Check.due("undo: saving keeps the calls, and is none", 1, x.undo());
         x.restore();
-        Check.due("state", second, state(x));
+        Check.due("state", second, Valleys.state(x));
     }
 
     private static void promise56Restore() {
@@ -176,19 +157,19 @@ final class UndoTest {
         Check.badState("restore, nothing saved", () -> x.restore());
         Check.due("undo after a refused restore", 0, x.undo());
         ValleyBells y = filled();
-        String saved = state(y);
+        String saved = Valleys.state(y);
         for (int round = 0; round < 3; round++) {
             y.removeBell(1);
             y.setTolerance(round);
             Check.type(y, "k");
             y.restore();
-            Check.due("state", saved, state(y));
+            Check.due("state", saved, Valleys.state(y));
             Check.badState("undo after restore", () -> y.undo());
         }
         Check.due("the text stays", 4, y.append('x'));
         Check.badArgument("run", () -> y.run());
         y.setTolerance(3);
         Check.due("undo", 0, y.undo());
-        Check.due("state", saved, state(y));
+        Check.due("state", saved, Valleys.state(y));
     }
 }
