@@ -24,6 +24,7 @@ final class ChordBoundsTest {
         promises40To42EachIntervalOfTones();
         promises40To42EachIntervalOfEchoes();
         promises40And41FullChord();
+        promises38To42EachBeatAnew();
         promises40To42AnyBeat();
         promise42FewNotes();
         promise43NothingSounds();
@@ -304,6 +305,24 @@ final class ChordBoundsTest {
         // of 64 and 72 is no third, so only 60 with each of the others and 72 with 76 and 75 are.
         duePairs(thirds, 22, 25);
         Check.due("thirds(22)", 6 * 3 + 6 * 3 + 6 * 2 + 6 * 2 + 4 * 2 + 4 * 2, thirds.thirds(22));
+    }
+
+    /** Each question about a beat comes right after one about another beat. */
+    private static void promises38To42EachBeatAnew() {
+        ValleyBells x = together(60, 61, 64);
+        for (int k = 0; k < 2; k++) {
+            Check.due("chordSize(0)", 3, x.chordSize(0));
+            duePairs(x, 1, 0);
+            Check.due("thirds(0)", 2, x.thirds(0));
+            Check.due("thirds(1)", 0, x.thirds(1));
+            Check.due("dissonances(0)", 1, x.dissonances(0));
+            Check.due("chordSize(1)", 0, x.chordSize(1));
+            Check.due("dissonancesByClasses(0)", 1, x.dissonancesByClasses(0));
+            Check.noElement("chordNote(1, 0)", () -> x.chordNote(1, 0));
+            Check.due("chordNote(0, 2)", 64, x.chordNote(0, 2));
+            Check.due("writeChord(1)", 0, x.writeChord(1));
+            Check.due("writeChord(0)", 8, x.writeChord(0));
+        }
     }
 
     private static void promises40To42AnyBeat() {

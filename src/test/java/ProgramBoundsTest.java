@@ -31,6 +31,7 @@ final class ProgramBoundsTest {
         promise49BesideTheDigits();
         promise49NumbersOfDigits();
         promise49BetweenCommands();
+        promise49EachCharacterAtEachPlace();
         promise49LastCharacterOfSixty();
         promise49NoneStored();
         promise49StoredLast();
@@ -360,6 +361,34 @@ final class ProgramBoundsTest {
         for (Object[] row : rows) {
             dueError((String) row[0], (Integer) row[1]);
         }
+    }
+
+    /** Each command with one character put in, replaced or left out: the Model's grammar tells what is due. */
+    private static void promise49EachCharacterAtEachPlace() {
+        for (String command : LONGEST) {
+            for (int place = 0; place <= command.length(); place++) {
+                String before = command.substring(0, place);
+                String behind = command.substring(Math.min(place + 1, command.length()));
+                dueAsModel(before + behind);
+                for (char character = ' '; character <= '~'; character++) {
+                    dueAsModel(before + character + command.substring(place));
+                    dueAsModel(before + character + behind);
+                }
+            }
+        }
+    }
+
+    private static void dueAsModel(String text) {
+        ValleyBells x = new ValleyBells();
+        Model m = new Model();
+        Check.type(x, text);
+        for (int k = 0; k < text.length(); k++) {
+            m.ask("append", text.charAt(k), 0);
+        }
+        String name = " of \"" + text + "\"";
+        Check.due("run" + name, Valleys.answer(() -> m.ask("run", 0, 0)), Valleys.answer(() -> x.run()));
+        Check.due("errorPosition" + name, Valleys.answer(() -> m.ask("errorPosition", 0, 0)), Valleys.errorPosition(x));
+        Check.due("failedCommand" + name, Valleys.answer(() -> m.ask("failedCommand", 0, 0)), Valleys.failedCommand(x));
     }
 
     private static void promise49LastCharacterOfSixty() {
